@@ -410,16 +410,17 @@ public final class NameGate {
 
     // ---- what it is worth to be told ----
 
-    private void weighFrom(int hour, int to, int by) {
+    private long weigh(int from, int hour, int to, int by) {
         chances.know(now.town, now.names, now.known, now.gone);
         chances.solve(hour, to, by);
+        return chances.worthAt(from, hour, 0);
     }
 
     public long tell(int person, int from, int hour, int to, int by) {
         if (!now.town.hasTripBy(from, hour, to, by) || !now.town.hasPerson(person)) {
             return NO_SUCH;
         }
-        weighFrom(hour, to, by);
+        weigh(from, hour, to, by);
         return chances.gainByTelling(person, from, hour);
     }
 
@@ -427,7 +428,7 @@ public final class NameGate {
         if (!now.town.hasTripBy(from, hour, to, by)) {
             return NO_SUCH;
         }
-        weighFrom(hour, to, by);
+        weigh(from, hour, to, by);
         long most = 0;
         int teller = NONE;
         for (int person = 0; person < now.town.people; person++) {
@@ -446,7 +447,7 @@ public final class NameGate {
             return NO_SUCH;
         }
         long wanted = (long) hundredths * (ALL / HUNDRED);
-        if (odds(from, hour, to, town.hours) < wanted) {
+        if (weigh(from, hour, to, town.hours) < wanted) {
             return NONE;
         }
         // More time never lowers the odds, so the first hour can be found by halving.
@@ -454,7 +455,7 @@ public final class NameGate {
         int high = town.hours;
         for (int turn = 0; turn < MOST_HOURS && low < high; turn++) {
             int middle = (low + high) / 2;
-            if (odds(from, hour, to, middle) >= wanted) {
+            if (weigh(from, hour, to, middle) >= wanted) {
                 high = middle;
             } else {
                 low = middle + 1;
@@ -582,8 +583,7 @@ public final class NameGate {
         if (!now.town.hasTripBy(from, hour, to, by)) {
             return NO_SUCH;
         }
-        weighFrom(hour, to, by);
-        return chances.worthAt(from, hour, 0);
+        return weigh(from, hour, to, by);
     }
 
     public int best(int from, int hour, int to, int by) {
@@ -593,7 +593,7 @@ public final class NameGate {
         if (from == to || hour == by) {
             return NO_MORE_TRY;
         }
-        weighFrom(hour, to, by);
+        weigh(from, hour, to, by);
         return chances.choose(from, hour, 0);
     }
 
@@ -630,7 +630,7 @@ public final class NameGate {
 
     public long price(int from, int hour, int to, int by) {
         long listed = list(from, hour, to, by);
-        return listed < 0 ? listed : listed - odds(from, hour, to, by);
+        return listed < 0 ? listed : listed - weigh(from, hour, to, by);
     }
 
     public int begin(int from, int to, int a, int b) {
@@ -874,7 +874,8 @@ public final class NameGate {
         }
 
         int courtOf(int person, int hour, int strayedSet) {
-            return has(strayedSet, person) ? strayCourts[person] : told[person * MOST_HOURS + hour];
+            boolean isGone = (strayedSet >> person & 1) != 0;
+            return isGone ? strayCourts[person] : told[person * MOST_HOURS + hour];
         }
 
         int showsOf(int person, int hour, int strayedSet) {
@@ -941,11 +942,12 @@ public final class NameGate {
 
     /** Reads a text into a town, and stops at its first fault. */
     static final class Reader {
-        private static final int END = 0;
+        private static final int BLANK = 0;
         private static final int WORD = 1;
         private static final int NUMBER = 2;
         private static final int STOP = 3;
         private static final int ODD = 4;
+        private static final int END = 5;
         private static final int WRONG_TOKEN = 1;
         private static final int WRONG_NUMBER = 2;
         private static final int TOO_MANY = 3;
@@ -954,11 +956,13 @@ public final class NameGate {
         int fault;
         int place;
         private byte[] text = new byte[0];
-        private int length;
-        private int start;
-        private int stop;
-        private int kind;
-        private int value;
+        /** The tokens, the end behind them: what they are, their first bytes, the bytes behind them. */
+        private final int[] kinds = new int[MOST_BYTES + 1];
+        private final int[] starts = new int[MOST_BYTES + 1];
+        private final int[] stops = new int[MOST_BYTES + 1];
+        private final int[] values = new int[MOST_BYTES + 1];
+        private int tokens;
+        private int at;
         private Town town = new Town();
         private int strayCount;
         private boolean lawTold;
@@ -966,20 +970,60 @@ public final class NameGate {
 
         Town read(byte[] bytes, int size) {
             text = bytes;
-            length = Math.min(size, bytes.length);
+            split(Math.min(size, bytes.length));
             fault = 0;
             place = NONE;
-            stop = 0;
+            at = 0;
             strayCount = 0;
             lawTold = false;
             falseTold = false;
             town = new Town();
-            advance();
-            for (int turn = 0; turn < MOST_BYTES && kind != END && fault == 0; turn++) {
+            for (int turn = 0; turn < MOST_BYTES && kinds[at] != END && fault == 0; turn++) {
                 readLine();
             }
             showPlaces();
             return town;
+        }
+
+        private void split(int size) {
+            tokens = 0;
+            int before = BLANK;
+            for (int i = 0; i < size; i++) {
+                int kind = kindOf(text[i]);
+                boolean goesOn = kind == before && (kind == WORD || kind == NUMBER);
+                if (kind != BLANK && !goesOn) {
+                    addToken(kind, i);
+                }
+                if (kind != BLANK) {
+                    stops[tokens - 1] = i + 1;
+                }
+                if (kind == NUMBER) {
+                    values[tokens - 1] = Math.min(values[tokens - 1] * 10 + text[i] - '0', HUGE);
+                }
+                before = kind;
+            }
+            kinds[tokens] = END;
+            starts[tokens] = size;
+        }
+
+        private void addToken(int kind, int start) {
+            kinds[tokens] = kind;
+            starts[tokens] = start;
+            values[tokens] = 0;
+            tokens++;
+        }
+
+        private static int kindOf(int sign) {
+            if (sign == ' ' || sign == '\n') {
+                return BLANK;
+            }
+            if (sign >= 'a' && sign <= 'z') {
+                return WORD;
+            }
+            if (sign >= '0' && sign <= '9') {
+                return NUMBER;
+            }
+            return sign == ';' ? STOP : ODD;
         }
 
         private void showPlaces() {
@@ -991,61 +1035,22 @@ public final class NameGate {
         private void blame(int what) {
             if (fault == 0) {
                 fault = what;
-                place = start;
+                place = starts[at];
             }
-        }
-
-        private static boolean isLetter(int sign) {
-            return sign >= 'a' && sign <= 'z';
-        }
-
-        private static boolean isDigit(int sign) {
-            return sign >= '0' && sign <= '9';
-        }
-
-        private static boolean isBlank(int sign) {
-            return sign == ' ' || sign == '\n';
         }
 
         private void advance() {
-            while (stop < length && isBlank(text[stop])) {
-                stop++;
-            }
-            start = stop;
-            if (start >= length) {
-                kind = END;
-            } else if (isLetter(text[start])) {
-                takeLetters();
-            } else if (isDigit(text[start])) {
-                takeDigits();
-            } else {
-                kind = text[start] == ';' ? STOP : ODD;
-                stop++;
-            }
-        }
-
-        private void takeLetters() {
-            kind = WORD;
-            while (stop < length && isLetter(text[stop])) {
-                stop++;
-            }
-        }
-
-        private void takeDigits() {
-            kind = NUMBER;
-            value = 0;
-            while (stop < length && isDigit(text[stop])) {
-                value = Math.min(value * 10 + text[stop] - '0', HUGE);
-                stop++;
+            if (fault == 0 && at < tokens) {
+                at++;
             }
         }
 
         private boolean isWord(String word) {
-            if (kind != WORD || stop - start != word.length()) {
+            if (kinds[at] != WORD || stops[at] - starts[at] != word.length()) {
                 return false;
             }
             for (int i = 0; i < word.length(); i++) {
-                if (text[start + i] != word.charAt(i)) {
+                if (text[starts[at] + i] != word.charAt(i)) {
                     return false;
                 }
             }
@@ -1055,27 +1060,19 @@ public final class NameGate {
         private void expectWord(String word) {
             if (!isWord(word)) {
                 blame(WRONG_TOKEN);
-            } else if (fault == 0) {
-                advance();
             }
+            advance();
         }
 
         private int expectNumber(int low, int high) {
-            return expectUnlike(low, high, NONE);
-        }
-
-        private int expectUnlike(int low, int high, int unlike) {
-            if (kind != NUMBER) {
+            int number = values[at];
+            if (kinds[at] != NUMBER) {
                 blame(WRONG_TOKEN);
-            } else if (value < low || value > high || value == unlike) {
+            } else if (number < low || number > high) {
                 blame(WRONG_NUMBER);
             }
-            if (fault != 0) {
-                return 0;
-            }
-            int number = value;
             advance();
-            return number;
+            return fault == 0 ? number : 0;
         }
 
         private int expectCourt() {
@@ -1098,13 +1095,11 @@ public final class NameGate {
             } else {
                 blame(WRONG_TOKEN);
             }
-            if (kind != STOP) {
+            if (kinds[at] != STOP) {
                 blame(WRONG_TOKEN);
             }
-            if (fault == 0) {
-                advance();
-                town.lines++;
-            }
+            advance();
+            town.lines++;
         }
 
         private void readHours() {
@@ -1137,7 +1132,10 @@ public final class NameGate {
             advance();
             int one = expectCourt();
             expectWord("to");
-            int other = expectUnlike(0, town.courts - 1, one);
+            if (kinds[at] == NUMBER && values[at] == one) {
+                blame(WRONG_NUMBER);
+            }
+            int other = expectCourt();
             if (fault == 0) {
                 town.oneEnd[town.gateCount] = one;
                 town.otherEnd[town.gateCount] = other;
@@ -1765,21 +1763,17 @@ public final class NameGate {
                 for (int state = 0; state < states; state++) {
                     lookAtState(state);
                     for (int court = 0; court < town.courts; court++) {
-                        worth[placeOf(court, h, state)] = mostWorth(court, h, state);
+                        worth[(h * MOST_COURTS + court) * MOST_STATES + state] = mostWorth(court, h, state);
                     }
                 }
             }
-        }
-
-        private static int placeOf(int court, int hour, int state) {
-            return (hour * MOST_COURTS + court) * MOST_STATES + state;
         }
 
         int worthAt(int court, int hour, int state) {
             if (court == goal) {
                 return ALL;
             }
-            return hour >= lastHour ? 0 : worth[placeOf(court, hour, state)];
+            return hour >= lastHour ? 0 : worth[(hour * MOST_COURTS + court) * MOST_STATES + state];
         }
 
         private void lookAtHour(int hour) {
