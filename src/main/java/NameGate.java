@@ -1541,11 +1541,10 @@ public final class NameGate {
         private void enter(int to, int keys) {
             for (int word = 0; word < words; word++) {
                 long opening = setsWithOneOf(keys, word);
-                for (int from = 0; from < town.courts; from++) {
-                    if (has(town.doors[from], to)) {
-                        long passing = town.isFree(from, to) ? -1L : opening;
-                        next[to * WORDS + word] |= here[from * WORDS + word] & passing;
-                    }
+                for (int i = 0; i < town.degrees[to]; i++) {
+                    int from = town.neighbours[to * MOST_COURTS + i];
+                    long passing = town.isFree(from, to) ? -1L : opening;
+                    next[to * WORDS + word] |= here[from * WORDS + word] & passing;
                 }
             }
         }

@@ -174,6 +174,8 @@ public final class PromiseTest {
         expectFault("town hours 5;town hours 5;", 1, 13);
         expectFault("town hours 5; house in 0;", 1, 14);
         expectFault("town hours 5; in 0;", 1, 14);
+        expectFault("town hours 5; courtz in 0;", 1, 14);
+        expectFault("town hours 5; acourt in 0;", 1, 14);
         expectFault("town hours 5;court in 1;", 2, 22);
         expectFault("town hours 5;court at 1;", 1, 19);
         expectFault("town hours 5;court in 0", 1, 23);
@@ -818,6 +820,7 @@ public final class PromiseTest {
         due("nor by odds", gate.odds(0, 0, 2, 6), 400_000_000);
         lists();
         falseNames();
+        noNameAtFreeGates();
         cut();
         Check.part("promise 47");
         due("the first", gate.begin(0, 2, 0, 5), 0);
@@ -866,6 +869,29 @@ public final class PromiseTest {
         due("the better one", one.best(0, 0, 1, 2), NONE);
         due("the better one at last", one.best(0, 1, 1, 2), 0);
         due("no time to stay", one.best(0, 0, 1, 3), 0);
+    }
+
+    /** To know whether person 0 has strayed would tell the way, but out of 2 nobody is named. */
+    private static void noNameAtFreeGates() {
+        NameGate gate = Check.townOf("town hours 9;law here;court in 0;court in 1;court in 0;court in 3;court in 0;"
+            + "court in 0;gate 2 to 1;gate 1 to 5;gate 5 to 3;gate 1 to 6;gate 6 to 4;gate 4 to 3;"
+            + "person at 1 from 1 at 3 strays 50 to 4;person at 5;person at 6;");
+        gate.names(7);
+        Check.part("promise 42, no name at free gates");
+        due("one of two ways", gate.odds(2, 0, 3, 5), 500_000_000);
+        due("no time to spare", gate.odds(2, 0, 3, 3), 500_000_000);
+        due("too late", gate.odds(2, 0, 3, 2), 0);
+        Check.part("promise 43, no name at free gates");
+        due("free", gate.best(2, 0, 3, 3), 99);
+        due("one may stay", gate.best(2, 0, 3, 5), NONE);
+        due("by a sure one", gate.best(1, 1, 3, 3), 101);
+        due("the try", gate.best(5, 2, 3, 3), 200);
+        Check.part("promise 32, no name at free gates");
+        due("all", gate.tell(0, 2, 0, 3, 5), 500_000_000);
+        Check.part("promise 33, no name at free gates");
+        due("of him", gate.tells(2, 0, 3, 5), 0);
+        Check.part("promise 46, no name at free gates");
+        due("the list's price", gate.price(2, 0, 3, 5), 500_000_000);
     }
 
     private static void cut() {
@@ -976,6 +1002,9 @@ public final class PromiseTest {
         due("nor truth", one.days(100, 100, 0, 1, 6), number);
         due("n 0", one.days(1, 0, 0, 1, 6), -2);
         due("n 101", one.days(1, 101, 0, 1, 6), -2);
+        due("seed 0", one.days(0, 1, 0, 1, 6), 1);
+        due("last seed", one.days(2_000_000_000, 1, 0, 1, 6), 1);
+        due("seeds behind the last", one.days(2_000_000_000, 100, 1, 1, 6), 100);
         due("seed beyond", one.days(2_000_000_001, 1, 0, 1, 6), -2);
         due("seed below", one.days(-1, 1, 0, 1, 6), -2);
         due("by 7", one.days(1, 1, 0, 1, 7), -2);
