@@ -19,6 +19,14 @@ final class Check {
         }
     }
 
+    static void same(String call, String got, String want) {
+        asked++;
+        if (!got.equals(want)) {
+            wrong++;
+            System.out.println(part + ": " + call + " is " + got + ", due is " + want);
+        }
+    }
+
     static void finish() {
         System.out.println(asked + " answers, " + wrong + " not as due");
         if (wrong != 0 || asked == 0) {
